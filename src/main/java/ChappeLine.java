@@ -33,6 +33,13 @@ public final class ChappeLine {
     private static final int LOG_SIZE = MESSAGES * (TEXT_SIZE + 4);
     private static final int NONE = -1;
 
+    private static final char WAITING = 'w';
+    private static final char BROKEN_OFF = 'b';
+    private static final char BEING_PUT = 'p';
+    private static final char WHOLLY_PUT = 'l';
+    private static final char WITH_COURIER = 'c';
+    private static final char DELIVERED = 'd';
+
     private final Land land = new Land();
     private final Planner planner = new Planner();
     private final Replay replay = new Replay();
@@ -54,33 +61,21 @@ public final class ChappeLine {
     // ---- land, towers and lines
 
     public int setGround(int cell, int height) throws IndexOutOfBoundsException, IllegalArgumentException {
-        if (!isWithin(cell, 0, CELLS - 1)) {
-            throw new IndexOutOfBoundsException("no such cell");
-        }
-        if (!isWithin(height, 0, MAX_GROUND)) {
-            throw new IllegalArgumentException("the height is out of range");
-        }
+        checkCell(cell);
+        checkRange(height, 0, MAX_GROUND);
         return land.changeGround(cell, height);
     }
 
     public int setFog(int cell, int fog) throws IndexOutOfBoundsException, IllegalArgumentException {
-        if (!isWithin(cell, 0, CELLS - 1)) {
-            throw new IndexOutOfBoundsException("no such cell");
-        }
-        if (!isWithin(fog, 0, MAX_FOG)) {
-            throw new IllegalArgumentException("the fog is out of range");
-        }
+        checkCell(cell);
+        checkRange(fog, 0, MAX_FOG);
         return land.changeFog(cell, fog);
     }
 
     public int tower(int cell, int height) throws IndexOutOfBoundsException, IllegalArgumentException,
             UnsupportedOperationException, IllegalStateException {
-        if (!isWithin(cell, 0, CELLS - 1)) {
-            throw new IndexOutOfBoundsException("no such cell");
-        }
-        if (!isWithin(height, 1, MAX_HEIGHT)) {
-            throw new IllegalArgumentException("the height is out of range");
-        }
+        checkCell(cell);
+        checkRange(height, 1, MAX_HEIGHT);
         if (isBuiltOn(cell)) {
             throw new UnsupportedOperationException("there is a tower on this cell");
         }
@@ -139,9 +134,7 @@ public final class ChappeLine {
     // ---- messages, men and books
 
     public int type(int signal) throws IllegalArgumentException, IllegalStateException {
-        if (!isWithin(signal, 0, TEXT_SIGNALS - 1)) {
-            throw new IllegalArgumentException("the signal is out of range");
-        }
+        checkRange(signal, 0, TEXT_SIGNALS - 1);
         if (draftSize >= draft.length) {
             throw new IllegalStateException("the text has 12 signals");
         }
@@ -153,9 +146,7 @@ public final class ChappeLine {
     public int put(int line, int rank) throws IndexOutOfBoundsException, IllegalArgumentException,
             UnsupportedOperationException, IllegalStateException {
         Line chosen = knownLine(line);
-        if (!isWithin(rank, 0, MAX_RANK)) {
-            throw new IllegalArgumentException("the rank is out of range");
-        }
+        checkRange(rank, 0, MAX_RANK);
         if (draftSize == 0 || chosen.length < 2) {
             throw new UnsupportedOperationException("the text is empty, or the line is too short");
         }
@@ -174,7 +165,7 @@ public final class ChappeLine {
     public int courier(int message) throws IndexOutOfBoundsException, UnsupportedOperationException,
             IllegalStateException {
         Message given = knownMessage(message);
-        if (given.state != 'w') {
+        if (given.state != WAITING) {
             throw new UnsupportedOperationException("it does not wait, or was begun");
         }
         if (!given.line.hasBlindPair(land)) {
@@ -186,9 +177,7 @@ public final class ChappeLine {
 
     public int doze(int tower, int doze) throws IndexOutOfBoundsException, IllegalArgumentException {
         Tower dozing = knownTower(tower);
-        if (!isWithin(doze, 0, MAX_DOZE)) {
-            throw new IllegalArgumentException("the doze is out of range");
-        }
+        checkRange(doze, 0, MAX_DOZE);
         int before = dozing.doze;
         dozing.doze = doze;
         return before;
@@ -197,9 +186,8 @@ public final class ChappeLine {
     public boolean bribe(int tower, int read, int set) throws IndexOutOfBoundsException,
             IllegalArgumentException {
         Tower bribed = knownTower(tower);
-        if (!isWithin(read, 0, TEXT_SIGNALS - 1) || !isWithin(set, 0, TEXT_SIGNALS - 1)) {
-            throw new IllegalArgumentException("a signal is out of range");
-        }
+        checkRange(read, 0, TEXT_SIGNALS - 1);
+        checkRange(set, 0, TEXT_SIGNALS - 1);
         boolean before = bribed.bribeRead != NONE;
         bribed.bribeRead = read;
         bribed.bribeSet = set;
@@ -207,9 +195,7 @@ public final class ChappeLine {
     }
 
     public int book(int day) throws IllegalArgumentException, IllegalStateException {
-        if (!isWithin(day, 0, MAX_DAY)) {
-            throw new IllegalArgumentException("the day is out of range");
-        }
+        checkRange(day, 0, MAX_DAY);
         if (bookCount >= books.length) {
             throw new IllegalStateException("there are 3 books");
         }
@@ -221,18 +207,15 @@ public final class ChappeLine {
     public int setWord(int book, int signal, int word) throws IndexOutOfBoundsException,
             IllegalArgumentException {
         Book changed = knownBook(book);
-        if (!isWithin(signal, 0, TEXT_SIGNALS - 1) || !isWithin(word, 0, MAX_WORD)) {
-            throw new IllegalArgumentException("a number is out of range");
-        }
+        checkRange(signal, 0, TEXT_SIGNALS - 1);
+        checkRange(word, 0, MAX_WORD);
         return changed.changeWord(signal, word);
     }
 
     // ---- time
 
     public int pass(int minutes) throws IllegalArgumentException {
-        if (!isWithin(minutes, 1, MAX_PASS)) {
-            throw new IllegalArgumentException("the number of minutes is out of range");
-        }
+        checkRange(minutes, 1, MAX_PASS);
         int delivered = 0;
         for (int i = 0; i < minutes; i++) {
             if (minute > 0 && minute % DAY == 0) {
@@ -263,16 +246,16 @@ public final class ChappeLine {
         if (!isWithin(index, 0, log.size - 1)) {
             throw new IndexOutOfBoundsException("no such signal in the log");
         }
-        switch (what) {
-            case 'r':
-                return log.readAt(index);
-            case 's':
-                return log.setAt(index);
-            case 'm':
-                return log.minuteAt(index);
-            default:
-                throw new IllegalArgumentException("there is no such thing in a log");
+        if (what == 'r') {
+            return log.readAt(index);
         }
+        if (what == 's') {
+            return log.setAt(index);
+        }
+        if (what == 'm') {
+            return log.minuteAt(index);
+        }
+        throw new IllegalArgumentException("there is no such thing in a log");
     }
 
     // ---- what became of messages
@@ -286,23 +269,17 @@ public final class ChappeLine {
     }
 
     public int signalAt(int message, int index) throws IndexOutOfBoundsException {
-        Message asked = knownMessage(message);
-        if (!isWithin(index, 0, asked.arrivedSize - 1)) {
-            throw new IndexOutOfBoundsException("no such signal was delivered");
-        }
-        return asked.arrivedAt(index);
+        return arrivedSignal(knownMessage(message), index);
     }
 
     public int meaning(int message, int index) throws IndexOutOfBoundsException, NoSuchElementException {
         Message asked = knownMessage(message);
-        if (!isWithin(index, 0, asked.arrivedSize - 1)) {
-            throw new IndexOutOfBoundsException("no such signal was delivered");
-        }
+        int signal = arrivedSignal(asked, index);
         Book book = bookOn(asked.putInMinute / DAY);
         if (book == null) {
             throw new NoSuchElementException("the message has no book");
         }
-        int word = book.wordOf(asked.arrivedAt(index));
+        int word = book.wordOf(signal);
         if (word == NONE) {
             throw new NoSuchElementException("the book has no word for the signal");
         }
@@ -310,19 +287,11 @@ public final class ChappeLine {
     }
 
     public int deliveredAt(int message) throws IndexOutOfBoundsException, NoSuchElementException {
-        Message asked = knownMessage(message);
-        if (asked.state != 'd') {
-            throw new NoSuchElementException("the message was not delivered yet");
-        }
-        return asked.deliveryMinute;
+        return deliveredMessage(message).deliveryMinute;
     }
 
     public boolean isRight(int message) throws IndexOutOfBoundsException, NoSuchElementException {
-        Message asked = knownMessage(message);
-        if (asked.state != 'd') {
-            throw new NoSuchElementException("the message was not delivered yet");
-        }
-        return asked.arrivedAsPut();
+        return deliveredMessage(message).arrivedAsPut();
     }
 
     public int blame(int message) throws IndexOutOfBoundsException, NoSuchElementException {
@@ -342,11 +311,11 @@ public final class ChappeLine {
 
     public int plan(int from, int to, int height) throws IndexOutOfBoundsException,
             IllegalArgumentException, NoSuchElementException {
-        if (!isWithin(from, 0, CELLS - 1) || !isWithin(to, 0, CELLS - 1)) {
-            throw new IndexOutOfBoundsException("no such cell");
-        }
-        if (!isWithin(height, 1, MAX_HEIGHT) || from == to) {
-            throw new IllegalArgumentException("the height is out of range, or both cells are the same");
+        checkCell(from);
+        checkCell(to);
+        checkRange(height, 1, MAX_HEIGHT);
+        if (from == to) {
+            throw new IllegalArgumentException("both cells are the same");
         }
         if (!planner.reaches(land, from, to, height)) {
             throw new NoSuchElementException("there is no such line");
@@ -374,33 +343,25 @@ public final class ChappeLine {
     }
 
     public float rightShare() throws ArithmeticException {
-        int delivered = 0;
+        int delivered = deliveredCount();
         int right = 0;
         for (int i = 0; i < messageCount; i++) {
             Message message = messageAt(i);
-            if (message != null && message.state == 'd') {
-                delivered++;
-                right += message.arrivedAsPut() ? 1 : 0;
+            if (message != null && message.state == DELIVERED && message.arrivedAsPut()) {
+                right++;
             }
-        }
-        if (delivered == 0) {
-            throw new ArithmeticException("no message was delivered");
         }
         return (float) right / (float) delivered;
     }
 
     public double meanMinutes() throws ArithmeticException {
-        int delivered = 0;
+        int delivered = deliveredCount();
         long sum = 0;
         for (int i = 0; i < messageCount; i++) {
             Message message = messageAt(i);
-            if (message != null && message.state == 'd') {
-                delivered++;
+            if (message != null && message.state == DELIVERED) {
                 sum += message.deliveryMinute - message.putInMinute;
             }
-        }
-        if (delivered == 0) {
-            throw new ArithmeticException("no message was delivered");
         }
         return (double) sum / (double) delivered;
     }
@@ -419,6 +380,18 @@ public final class ChappeLine {
 
     private static boolean isWithin(int number, int least, int greatest) {
         return number >= least && number <= greatest;
+    }
+
+    private static void checkCell(int cell) {
+        if (!isWithin(cell, 0, CELLS - 1)) {
+            throw new IndexOutOfBoundsException("no such cell");
+        }
+    }
+
+    private static void checkRange(int number, int least, int greatest) {
+        if (!isWithin(number, least, greatest)) {
+            throw new IllegalArgumentException("a number is out of range");
+        }
     }
 
     private Tower towerAt(int number) {
@@ -469,6 +442,21 @@ public final class ChappeLine {
         return book;
     }
 
+    private Message deliveredMessage(int number) {
+        Message message = knownMessage(number);
+        if (message.state != DELIVERED) {
+            throw new NoSuchElementException("the message was not delivered yet");
+        }
+        return message;
+    }
+
+    private static int arrivedSignal(Message message, int index) {
+        if (!isWithin(index, 0, message.arrivedSize - 1)) {
+            throw new IndexOutOfBoundsException("no such signal was delivered");
+        }
+        return message.arrivedAt(index);
+    }
+
     private boolean isBuiltOn(int cell) {
         for (int i = 0; i < towerCount; i++) {
             Tower tower = towerAt(i);
@@ -488,6 +476,20 @@ public final class ChappeLine {
             }
         }
         return latest;
+    }
+
+    private int deliveredCount() {
+        int delivered = 0;
+        for (int i = 0; i < messageCount; i++) {
+            Message message = messageAt(i);
+            if (message != null && message.state == DELIVERED) {
+                delivered++;
+            }
+        }
+        if (delivered == 0) {
+            throw new ArithmeticException("no message was delivered");
+        }
+        return delivered;
     }
 
     // ---- one minute
@@ -516,7 +518,7 @@ public final class ChappeLine {
         int delivered = 0;
         for (int i = 0; i < messageCount; i++) {
             Message message = messageAt(i);
-            if (message != null && message.state == 'c' && message.deliveryMinute <= minute) {
+            if (message != null && message.state == WITH_COURIER && message.deliveryMinute <= minute) {
                 message.arriveByCourier();
                 delivered++;
             }
@@ -703,7 +705,7 @@ public final class ChappeLine {
         private int begunCount;
         private final Message[] owners = new Message[LOG_SIZE];
         private final Desk desk = new Desk();
-        private int deliveredSignals;
+        int deliveredSignals;
 
         Tower towerIn(int place) {
             return isWithin(place, 0, length - 1) && place < TOWERS ? row[place] : null;
@@ -794,13 +796,13 @@ public final class ChappeLine {
             } else if (next != null && next.rank > putting.rank) {
                 own(first, putting);
                 signal = SUSPEND;
-                putting.state = 'b';
+                putting.state = BROKEN_OFF;
                 putting = null;
             } else {
                 own(first, putting);
                 signal = putting.takeNextSignal();
                 if (signal == END) {
-                    putting.state = 'l';
+                    putting.state = WHOLLY_PUT;
                     putting = null;
                 }
             }
@@ -808,8 +810,8 @@ public final class ChappeLine {
         }
 
         private int startOf(Message message) {
-            boolean isNew = message.state == 'w';
-            message.state = 'p';
+            boolean isNew = message.state == WAITING;
+            message.state = BEING_PUT;
             if (isNew && isWithin(begunCount, 0, MESSAGES - 1)) {
                 begun[begunCount] = message;
                 begunCount++;
@@ -1000,7 +1002,7 @@ public final class ChappeLine {
                     return false;
                 }
                 boolean isOfLine = !message.isByCourier;
-                boolean isDelivered = isOfLine && message.state == 'd';
+                boolean isDelivered = isOfLine && message.state == DELIVERED;
                 int due = isOfLine ? message.arrivedSize : 0;
                 if (counts[message.number] != due || areEnded[message.number] != isDelivered) {
                     return false;
@@ -1021,7 +1023,7 @@ public final class ChappeLine {
         private int putSize;
         private final int[] arrived = new int[TEXT_SIZE];
         int arrivedSize;
-        char state = 'w';
+        char state = WAITING;
         boolean isByCourier;
         int deliveryMinute;
 
@@ -1040,7 +1042,7 @@ public final class ChappeLine {
         }
 
         boolean isWaiting() {
-            return state == 'w' || state == 'b';
+            return state == WAITING || state == BROKEN_OFF;
         }
 
         int takeNextSignal() {
@@ -1059,12 +1061,12 @@ public final class ChappeLine {
         }
 
         void close(int minute) {
-            state = 'd';
+            state = DELIVERED;
             deliveryMinute = minute;
         }
 
         void giveToCourier(int dueMinute) {
-            state = 'c';
+            state = WITH_COURIER;
             isByCourier = true;
             deliveryMinute = dueMinute;
         }
@@ -1073,7 +1075,7 @@ public final class ChappeLine {
             for (int i = 0; i < textSize && i < TEXT_SIZE; i++) {
                 arrive(text[i]);
             }
-            state = 'd';
+            state = DELIVERED;
         }
 
         int arrivedAt(int index) {
@@ -1093,7 +1095,7 @@ public final class ChappeLine {
         }
 
         int cost() {
-            if (state != 'd' || !arrivedAsPut()) {
+            if (state != DELIVERED || !arrivedAsPut()) {
                 return 0;
             }
             return isByCourier ? COURIER_COST : 2 * textSize * (rank + 1);

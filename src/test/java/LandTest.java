@@ -151,6 +151,10 @@ public final class LandTest {
         Check.due("8: onto the wall", chappe.sees(0, 3, true), true);
         chappe.setGround(3, 50);
         Check.due("8: raised over the wall", chappe.sees(0, 1, true), true);
+        chappe.setGround(10, 16);
+        Check.due("8: a wall near the other eye", chappe.sees(0, 1, true), false);
+        chappe.setGround(10, 15);
+        Check.due("8: a lower wall near the other eye", chappe.sees(0, 1, true), true);
     }
 
     private static void seesByWeather() {

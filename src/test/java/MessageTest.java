@@ -7,6 +7,7 @@ public final class MessageTest {
         courier();
         courierRefuses();
         courierBetweenOthers();
+        courierAtOnce();
         doze();
         dozeByDays();
         dozeCountsTheLog();
@@ -128,6 +129,18 @@ public final class MessageTest {
         Check.due("12: by arms", chappe.signalAt(2, 0), 3);
         Check.due("12: by courier", chappe.signalAt(1, 0), 2);
         Check.due("12: consistent", chappe.isConsistent(), true);
+    }
+
+    private static void courierAtOnce() {
+        ChappeLine chappe = Check.lineOn(9, 23, 0);
+        Check.send(chappe, 0, 2, 1);
+        Check.due("12: the first message, backwards", chappe.courier(0), 690);
+        Check.due("12: waits no more", chappe.pass(300), 0);
+        Check.due("12: delivered", Check.passUntil(chappe, 691), 1);
+        Check.due("12: logs have none", chappe.signals(), 0L);
+        Check.due("12: a bill", chappe.bill(0), 50);
+        Check.due("12: share", chappe.rightShare(), 1.0f);
+        Check.refuses("12: none to blame", Check.NO_ELEMENT, () -> chappe.blame(0));
     }
 
     private static void doze() {

@@ -1,3 +1,5 @@
+import java.lang.reflect.Field;
+
 /** Promises 30 to 35: planning and figures. */
 public final class PlanTest {
     public static void main(String[] args) {
@@ -9,6 +11,7 @@ public final class PlanTest {
         rightShare();
         meanMinutes();
         isConsistent();
+        isNotConsistent();
         Check.end("PlanTest");
     }
 
@@ -137,6 +140,48 @@ public final class PlanTest {
                 chappe.pass(1);
                 Check.due("35: consistent", chappe.isConsistent(), true);
             }
+        }
+    }
+
+    /** No call makes a state that is not consistent, so this one is made behind the object's back. */
+    private static void isNotConsistent() {
+        String[] rows = {"reads", "sets", "minutes"};
+        for (int tower = 0; tower < 3; tower++) {
+            for (String row : rows) {
+                ChappeLine chappe = twoMessages();
+                Object log = inside(at(inside(chappe, "towers"), tower), "log");
+                ((int[]) inside(log, row))[1] = row.equals("reads") ? 40 : row.equals("sets") ? 41 : tower == 0 ? 99 : 0;
+                boolean isRead = tower > 0 || !row.equals("reads");
+                Check.due("35: " + row + " of tower " + tower, chappe.isConsistent(), !isRead);
+            }
+        }
+        for (int message = 0; message < 2; message++) {
+            ChappeLine chappe = twoMessages();
+            ((int[]) inside(at(inside(chappe, "messages"), message), "arrived"))[0] = 40;
+            Check.due("35: what came of message " + message, chappe.isConsistent(), false);
+        }
+    }
+
+    private static ChappeLine twoMessages() {
+        ChappeLine chappe = Check.lineOn(9, 0, 4, 8);
+        Check.send(chappe, 0, 0, 1, 2);
+        Check.send(chappe, 0, 0, 3);
+        chappe.pass(300);
+        Check.due("35: consistent", chappe.isConsistent(), true);
+        return chappe;
+    }
+
+    private static Object at(Object row, int index) {
+        return ((Object[]) row)[index];
+    }
+
+    private static Object inside(Object object, String name) {
+        try {
+            Field field = object.getClass().getDeclaredField(name);
+            field.setAccessible(true);
+            return field.get(object);
+        } catch (ReflectiveOperationException e) {
+            throw new IllegalStateException(e);
         }
     }
 }
