@@ -10,6 +10,7 @@ public final class TimeTest {
         breakingOff();
         breakingOffTheEnd();
         linesByThemselves();
+        longestLog();
         Check.end("TimeTest");
     }
 
@@ -175,5 +176,25 @@ public final class TimeTest {
         Check.due("17: the first line's", Check.log(chappe, 1, 'r'), "61 1 63");
         Check.due("17: the second line's", Check.log(chappe, 3, 'r'), "61 2 63");
         Check.due("17: one of each", chappe.signalAt(1, 0), 2);
+    }
+
+    /** The first message is broken off by each of the others. */
+    private static void longestLog() {
+        ChappeLine chappe = Check.lineOn(9, 0, 1);
+        Check.send(chappe, 0, 0, 0, 59, 0, 59, 0, 59, 0, 59, 0, 59, 0, 59);
+        chappe.pass(1);
+        for (int i = 1; i < 20; i++) {
+            Check.send(chappe, 0, 1, 59, 0, 59, 0, 59, 0, 59, 0, 59, 0, 59, i);
+            for (int j = 0; j < 300 && chappe.state(i) != 'd'; j++) {
+                chappe.pass(1);
+            }
+            Check.due("17: broken off once more", chappe.state(0), 'p');
+        }
+        chappe.pass(300);
+        Check.due("20: 20 times 14, and 19 times two", chappe.logged(1), 318);
+        Check.due("20: ahead of it", chappe.logged(0), 318);
+        Check.due("33: all are right", chappe.rightShare(), 1.0f);
+        Check.due("21: the last signal", chappe.inLog(1, 317, 's'), 63);
+        Check.due("35: consistent", chappe.isConsistent(), true);
     }
 }
