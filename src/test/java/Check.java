@@ -1,7 +1,17 @@
+import java.lang.reflect.InvocationTargetException;
+import java.lang.reflect.Method;
+import java.lang.reflect.Modifier;
+import java.util.Arrays;
+import java.util.Comparator;
+
 /** Compares answers with those that are due, and counts. */
 final class Check {
     interface Call {
         Object run();
+    }
+
+    interface Condition {
+        boolean holds();
     }
 
     static final Class<IndexOutOfBoundsException> INDEX = IndexOutOfBoundsException.class;
@@ -13,8 +23,25 @@ final class Check {
 
     private static int passed = 0;
     private static int failed = 0;
+    private static String sentence = "";
+    private static int passedAhead = 0;
 
     private Check() {
+    }
+
+    /** Names the sentence of the document that the next answers are for; its terms are promise 0. */
+    static void sentence(int promise, String words) {
+        endSentence();
+        sentence = promise + ": " + words;
+        passedAhead = passed + failed;
+    }
+
+    private static void endSentence() {
+        if (!sentence.isEmpty() && passed + failed == passedAhead) {
+            failed++;
+            System.out.println("nothing was looked at for the sentence " + sentence);
+        }
+        sentence = "";
     }
 
     static void due(String what, Object got, Object want) {
@@ -22,7 +49,8 @@ final class Check {
             passed++;
         } else {
             failed++;
-            System.out.println(what + " answered " + got + ", due is " + want);
+            System.out.println(what + " answered " + got + ", due is " + want
+                    + (sentence.isEmpty() ? "" : ", by " + sentence));
         }
     }
 
@@ -36,6 +64,38 @@ final class Check {
             return call.run();
         } catch (RuntimeException e) {
             return e.getClass().getSimpleName();
+        }
+    }
+
+    /** Runs each test of a class, so that none is left out and a fault in one hides no other. */
+    static void runAll(Class<?> tests) {
+        Method[] methods = tests.getDeclaredMethods();
+        Arrays.sort(methods, Comparator.comparing(Method::getName));
+        for (Method method : methods) {
+            boolean isTest = !method.isSynthetic() && !Modifier.isPrivate(method.getModifiers())
+                    && method.getParameterCount() == 0 && method.getReturnType() == void.class;
+            if (isTest) {
+                runOne(method);
+            }
+        }
+        end(tests.getName());
+    }
+
+    private static void runOne(Method test) {
+        int before = passed + failed;
+        try {
+            test.invoke(null);
+        } catch (InvocationTargetException e) {
+            failed++;
+            System.out.println(test.getName() + " broke off with " + e.getCause()
+                    + (sentence.isEmpty() ? "" : ", at " + sentence));
+        } catch (IllegalAccessException e) {
+            throw new IllegalStateException(e);
+        }
+        endSentence();
+        if (passed + failed == before) {
+            failed++;
+            System.out.println(test.getName() + " looked at nothing");
         }
     }
 
@@ -61,27 +121,68 @@ final class Check {
         return line;
     }
 
-    static int send(ChappeLine chappe, int line, int rank, int... signals) {
+    static void type(ChappeLine chappe, int... signals) {
         for (int signal : signals) {
             chappe.type(signal);
         }
+    }
+
+    static int send(ChappeLine chappe, int line, int rank, int... signals) {
+        type(chappe, signals);
         return chappe.put(line, rank);
     }
 
     static int passUntil(ChappeLine chappe, int minute) {
         int delivered = 0;
-        while (chappe.minute() < minute) {
-            delivered += chappe.pass(Math.min(300, minute - chappe.minute()));
+        int minutes = minute - chappe.minute();
+        for (int left = minutes; left > 0; left -= 300) {
+            delivered += chappe.pass(Math.min(300, left));
         }
         return delivered;
+    }
+
+    /** Lets minutes go by, one by one, as long as something holds; tells how many. */
+    static int passWhile(ChappeLine chappe, Condition condition) {
+        for (int minutes = 0; minutes < 200; minutes++) {
+            if (!condition.holds()) {
+                return minutes;
+            }
+            chappe.pass(1);
+        }
+        throw new IllegalStateException("what was waited for did not come");
     }
 
     /** One row of a tower's log: 'r', 's' or 'm' of all signals, parted by blanks. */
     static String log(ChappeLine chappe, int tower, char what) {
         StringBuilder row = new StringBuilder();
-        for (int i = 0; i < chappe.logged(tower); i++) {
+        int size = chappe.logged(tower);
+        for (int i = 0; i < size; i++) {
             row.append(i == 0 ? "" : " ").append(chappe.inLog(tower, i, what));
         }
         return row.toString();
+    }
+
+    /** What came of a message, parted by blanks. */
+    static String text(ChappeLine chappe, int message) {
+        StringBuilder row = new StringBuilder();
+        int size = chappe.came(message);
+        for (int i = 0; i < size; i++) {
+            row.append(i == 0 ? "" : " ").append(chappe.signalAt(message, i));
+        }
+        return row.toString();
+    }
+
+    /** The line of a plan, parted by blanks. */
+    static String planned(ChappeLine chappe, int size) {
+        StringBuilder row = new StringBuilder();
+        for (int i = 0; i < size; i++) {
+            row.append(i == 0 ? "" : " ").append(chappe.planned(i));
+        }
+        return row.toString();
+    }
+
+    /** Numbers that are out of a range: the next ones, and those at the ends of all. */
+    static int[] outside(int least, int most) {
+        return new int[] {least - 1, most + 1, Integer.MIN_VALUE, Integer.MAX_VALUE};
     }
 }

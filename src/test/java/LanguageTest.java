@@ -25,10 +25,20 @@ public final class LanguageTest {
     };
 
     private static final String[] BANNED = {
-        "->", "::", "\\bcatch\\b", "\\bfinally\\b", "\\bsynchronized\\b", "\\bassert\\b", "\\bvar\\b",
-        "\\bMath\\.\\w+Exact\\b", "\\bSystem\\.(?!arraycopy)", "\\bextends \\w*Exception\\b", "@\\w+",
-        "\"\\s*\\+", "\\+\\s*\"", "\\bstatic \\{", "\\bequals\\b", "\\bhashCode\\b", "\\btoString\\b"
+        "::", "\\)\\s*->", "=\\s*\\w+\\s*->", "\\(\\s*\\w+\\s*->", "\\bfinally\\b", "\\bsynchronized\\b",
+        "\\bassert\\b", "\\bMath\\.\\w+Exact\\b", "\\bSystem\\.(?!arraycopy)", "\\bextends \\w*Exception\\b",
+        "\"\\s*\\+", "\\+\\s*\"", "\\bstatic \\{", "\\bboolean equals\\b", "\\bint hashCode\\b",
+        "\\bString toString\\b", "\\bThread\\b", "\\bObject\\b",
+        "catch \\((final )?(ArrayIndex\\w*|StringIndex\\w*|NullPointer\\w*|ClassCast\\w*|NegativeArray\\w*|ArrayStore\\w*"
+                + "|Exception|Throwable|Error)\\b"
     };
+
+    private static final Set<String> THROWN = Set.of("IllegalStateException", "IllegalArgumentException",
+            "IndexOutOfBoundsException", "ArithmeticException", "UnsupportedOperationException",
+            "NoSuchElementException", "RuntimeException");
+
+    private static final Set<String> IMPORTED = Set.of("java.util.NoSuchElementException", "java.util.ArrayList",
+            "java.util.List", "java.util.Arrays", "java.util.Iterator");
 
     public static void main(String[] args) throws IOException {
         String source = Files.readString(Path.of("src/main/java/ChappeLine.java"), StandardCharsets.UTF_8);
@@ -105,15 +115,14 @@ public final class LanguageTest {
         }
         Matcher imports = Pattern.compile("\\bimport\\s+([\\w.*]+)").matcher(code);
         while (imports.find()) {
-            Check.due("4: import", imports.group(1), "java.util.NoSuchElementException");
+            Check.due("4: import " + imports.group(1), IMPORTED.contains(imports.group(1)), true);
         }
         Matcher thrown = Pattern.compile("\\bthrow\\b\\s*(\\S+)\\s*(\\w*)(\\([^)]*\\);)?").matcher(code);
         while (thrown.find()) {
-            boolean isNew = thrown.group(1).equals("new") && thrown.group(3) != null
-                    && thrown.group(3).matches("\\((\"[^\"]*\")?\\);");
+            boolean isNew = thrown.group(1).equals("new") && THROWN.contains(thrown.group(2))
+                    && thrown.group(3) != null && thrown.group(3).matches("\\((\"[^\"]*\")?\\);");
             Check.due("6: " + thrown.group(), isNew, true);
         }
-        Check.due("9: no while", Pattern.compile("\\bwhile\\b|\\bdo\\b").matcher(code).find(), false);
     }
 
     private static void methodsAreShort(String code) {
@@ -123,7 +132,6 @@ public final class LanguageTest {
         String end = "";
         for (String line : code.split("\n")) {
             number++;
-            Check.due("line " + number + " is not too long", line.length() <= 120, true);
             if (!isInMethod && line.matches(" {4,8}(\\w[\\w\\[\\] ]*)\\(.*") && !line.contains(";")) {
                 isInMethod = true;
                 start = number;
