@@ -3,14 +3,18 @@ import java.nio.charset.StandardCharsets;
 import java.nio.file.DirectoryStream;
 import java.nio.file.Files;
 import java.nio.file.Path;
+import java.util.HashMap;
 import java.util.LinkedHashSet;
+import java.util.Map;
 import java.util.Set;
 import java.util.regex.Matcher;
 import java.util.regex.Pattern;
 
 /** Each sentence of the document that can be broken is quoted by a test, as Check.sentence(promise, words). */
 public final class DocTest {
-    private static final Pattern QUOTE = Pattern.compile("Check\\.sentence\\((\\d+),\\s*((?:\"[^\"]*\"[\\s+]*)+)\\)");
+    private static final String WORDS = "((?:\"[^\"]*\"[\\s+]*)+|[A-Z_]+)";
+    private static final Pattern QUOTE = Pattern.compile("Check\\.sentence\\((\\d+),\\s*" + WORDS + "\\)");
+    private static final Pattern NAMED = Pattern.compile("static final String ([A-Z_]+) = " + WORDS + ";");
     private static final Pattern HEADING = Pattern.compile("## Promise (\\d+): .*");
 
     public static void main(String[] args) throws IOException {
@@ -29,14 +33,29 @@ public final class DocTest {
         Set<String> quotes = new LinkedHashSet<>();
         try (DirectoryStream<Path> tests = Files.newDirectoryStream(Path.of("src/test/java"), "*Test.java")) {
             for (Path test : tests) {
-                Matcher quote = QUOTE.matcher(Files.readString(test, StandardCharsets.UTF_8));
-                while (quote.find()) {
-                    String words = quote.group(2).replaceAll("\"\\s*\\+\\s*\"", "").trim();
-                    quotes.add(quote.group(1) + ": " + words.substring(1, words.length() - 1));
-                }
+                addQuotes(quotes, Files.readString(test, StandardCharsets.UTF_8));
             }
         }
         return quotes;
+    }
+
+    private static void addQuotes(Set<String> quotes, String test) {
+        Map<String, String> named = new HashMap<>();
+        Matcher name = NAMED.matcher(test);
+        while (name.find()) {
+            named.put(name.group(1), whole(name.group(2)));
+        }
+        Matcher quote = QUOTE.matcher(test);
+        while (quote.find()) {
+            String words = quote.group(2);
+            quotes.add(quote.group(1) + ": " + (words.startsWith("\"") ? whole(words) : named.get(words)));
+        }
+    }
+
+    /** The text of one or more literals that are joined by +. */
+    private static String whole(String literals) {
+        String joined = literals.replaceAll("\"\\s*\\+\\s*\"", "").trim();
+        return joined.substring(1, joined.length() - 1);
     }
 
     private static Set<String> sentences(String document) {

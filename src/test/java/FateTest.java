@@ -1,5 +1,8 @@
 /** Promises 22 to 29, sentence by sentence: what became of messages. */
 public final class FateTest {
+    private static final String BILL = "Returns 0 if it was not delivered, or is wrong; 50 by a courier; otherwise "
+            + "2 for each signal of its text, times 1 more than its rank.";
+
     public static void main(String[] args) {
         Check.runAll(FateTest.class);
     }
@@ -457,8 +460,7 @@ public final class FateTest {
             Check.send(chappe, 0, rank, 59);
             Check.send(chappe, 0, rank, 1, 2, 3, 4, 5, 6, 7, 8, 9, 10, 11, 12);
         }
-        Check.sentence(29, "Returns 0 if it was not delivered, or is wrong; 50 by a courier; "
-                + "otherwise 2 for each signal of its text, times 1 more than its rank.");
+        Check.sentence(29, BILL);
         Check.due("it waits", chappe.bill(0), 0);
         Check.passWhile(chappe, () -> chappe.state(6) != 'l');
         Check.due("its end is on its way", chappe.bill(6), 0);
@@ -474,8 +476,7 @@ public final class FateTest {
         chappe.bribe(0, 9, 8);
         Check.send(chappe, 0, 3, 9);
         chappe.pass(100);
-        Check.sentence(29, "Returns 0 if it was not delivered, or is wrong; 50 by a courier; "
-                + "otherwise 2 for each signal of its text, times 1 more than its rank.");
+        Check.sentence(29, BILL);
         Check.due("wrong", chappe.bill(0), 0);
         chappe.setFog(1, 9);
         Check.send(chappe, 0, 3, 1, 2, 3, 4, 5, 6, 7, 8, 9, 10, 11, 12);

@@ -1,5 +1,25 @@
 /** The terms of men, delivery, couriers and books, sentence by sentence. */
 public final class MenTest {
+    private static final String DOZING = "When it takes or puts a signal of a text, and its doze is greater than "
+            + "the number of signals in its log ahead of this one, modulo 10, and this number is odd, it sets the "
+            + "signal with its lowest bit turned.";
+    private static final String BRIBED = "A tower that is bribed sets, once, a told signal of a text in place of a "
+            + "told one that it reads, or the same one, without dozing then.";
+    private static final String DAYS = "As each day from the day 1 on begins, of 1440 minutes, the doze of each "
+            + "tower becomes 1 less, at least 0.";
+    private static final String DELIVERY = "Delivered signals make messages again: 'begin' opens the next one of "
+            + "those that were begun, in their order; signals of texts come to the message that is open; 'suspend' "
+            + "puts it aside, on top of the others; 'go on' opens the one on top of these; 'end' closes the open "
+            + "one: it is delivered.";
+    private static final String BLAME = "If a signal of it was set otherwise than it was read by some tower of the "
+            + "line, the first such tower is to blame, right or not.";
+    private static final String COURIERS = "Then a courier can take a message that waits and was not begun; it is "
+            + "delivered, right, at the end of the minute that is 30 times the difference of the cells of the "
+            + "first and the last tower later, or of this one, if this is 0.";
+    private static final String BOOKS = "Of the books that hold on the day on which a message was put in, the one "
+            + "with the latest day is its book, of several the one with the highest number, by books and words as "
+            + "they are when this is asked.";
+
     public static void main(String[] args) {
         Check.runAll(MenTest.class);
     }
@@ -27,9 +47,7 @@ public final class MenTest {
     };
 
     static void dozingMen() {
-        Check.sentence(0, "When it takes or puts a signal of a text, and its doze is greater than the number of signals "
-                + "in its log ahead of this one, modulo 10, and this number is odd, it sets the signal "
-                + "with its lowest bit turned.");
+        Check.sentence(0, DOZING);
         for (int doze = 0; doze <= 9; doze++) {
             for (int tower = 0; tower < 3; tower++) {
                 ChappeLine chappe = Check.lineOn(9, 0, 1, 2);
@@ -50,9 +68,7 @@ public final class MenTest {
         chappe.doze(1, 8);
         Check.send(chappe, 0, 0, 20, 20, 20, 20, 20, 20, 20, 20, 20, 20, 20, 20);
         chappe.pass(200);
-        Check.sentence(0, "When it takes or puts a signal of a text, and its doze is greater than the number of signals "
-                + "in its log ahead of this one, modulo 10, and this number is odd, it sets the signal "
-                + "with its lowest bit turned.");
+        Check.sentence(0, DOZING);
         // The first one of the third text has 18 ahead of it, the second one 19, the fourth one 21.
         Check.due("at 21, 23, 25 and 27", Check.text(chappe, 2), "20 20 20 21 20 21 20 21 20 21 20 20");
     }
@@ -62,9 +78,7 @@ public final class MenTest {
         chappe.doze(1, 9);
         Check.send(chappe, 0, 0, 59, 0, 58, 0, 0, 0, 1);
         chappe.pass(200);
-        Check.sentence(0, "When it takes or puts a signal of a text, and its doze is greater than the number of signals "
-                + "in its log ahead of this one, modulo 10, and this number is odd, it sets the signal "
-                + "with its lowest bit turned.");
+        Check.sentence(0, DOZING);
         Check.due("odd to even and even to odd", Check.text(chappe, 0), "58 0 59 0 1 0 0");
     }
 
@@ -76,9 +90,7 @@ public final class MenTest {
         Check.send(chappe, 0, 1, 40);
         Check.send(chappe, 0, 0, 50);
         chappe.pass(200);
-        Check.sentence(0, "When it takes or puts a signal of a text, and its doze is greater than the number of signals "
-                + "in its log ahead of this one, modulo 10, and this number is odd, it sets the signal "
-                + "with its lowest bit turned.");
+        Check.sentence(0, DOZING);
         // Suspend, go on, end and begin stand at odd places too.
         Check.due("what was to be put", Check.log(chappe, 0, 'r'), "61 10 20 62 61 40 63 60 30 63 61 50 63");
         Check.due("what it set", Check.log(chappe, 0, 's'), "61 11 20 62 61 41 63 60 30 63 61 51 63");
@@ -101,8 +113,7 @@ public final class MenTest {
         chappe.bribe(1, 30, 40);
         Check.send(chappe, 0, 0, 5, 30, 30, 40);
         chappe.pass(100);
-        Check.sentence(0, "A tower that is bribed sets, once, a told signal of a text in place of a told one "
-                + "that it reads, or the same one, without dozing then.");
+        Check.sentence(0, BRIBED);
         Check.due("in place of a told one", Check.log(chappe, 1, 's'), "61 5 40 30 40 63");
         Check.due("what it read", Check.log(chappe, 1, 'r'), "61 5 30 30 40 63");
         Check.due("the next one reads that", Check.log(chappe, 2, 'r'), "61 5 40 30 40 63");
@@ -113,8 +124,7 @@ public final class MenTest {
         chappe.bribe(1, 30, 40);
         Check.send(chappe, 0, 0, 31, 28, 40);
         chappe.pass(100);
-        Check.sentence(0, "A tower that is bribed sets, once, a told signal of a text in place of a told one "
-                + "that it reads, or the same one, without dozing then.");
+        Check.sentence(0, BRIBED);
         Check.due("not for others", Check.text(chappe, 0), "31 28 40");
         chappe.bribe(0, 29, 30);
         Check.send(chappe, 0, 0, 29, 30);
@@ -127,8 +137,7 @@ public final class MenTest {
         chappe.bribe(0, 30, 40);
         Check.send(chappe, 0, 0, 30, 30);
         chappe.pass(100);
-        Check.sentence(0, "A tower that is bribed sets, once, a told signal of a text in place of a told one "
-                + "that it reads, or the same one, without dozing then.");
+        Check.sentence(0, BRIBED);
         Check.due("what was to be put", Check.log(chappe, 0, 'r'), "61 30 30 63");
         Check.due("in place of a told one", Check.log(chappe, 0, 's'), "61 40 30 63");
     }
@@ -139,8 +148,7 @@ public final class MenTest {
         chappe.bribe(1, 30, 40);
         Check.send(chappe, 0, 0, 30, 5, 30);
         chappe.pass(100);
-        Check.sentence(0, "A tower that is bribed sets, once, a told signal of a text in place of a told one "
-                + "that it reads, or the same one, without dozing then.");
+        Check.sentence(0, BRIBED);
         Check.due("40, not 41; dozing later", Check.text(chappe, 0), "40 5 31");
     }
 
@@ -150,8 +158,7 @@ public final class MenTest {
         chappe.bribe(1, 30, 30);
         Check.send(chappe, 0, 0, 30, 5, 30);
         chappe.pass(100);
-        Check.sentence(0, "A tower that is bribed sets, once, a told signal of a text in place of a told one "
-                + "that it reads, or the same one, without dozing then.");
+        Check.sentence(0, BRIBED);
         Check.due("30, not 31; dozing later", Check.text(chappe, 0), "30 5 31");
         Check.due("it was used", chappe.bribe(1, 1, 1), false);
     }
@@ -167,8 +174,7 @@ public final class MenTest {
     }
 
     static void dozesByDays() {
-        Check.sentence(0, "As each day from the day 1 on begins, of 1440 minutes, the doze of each tower becomes 1 less, "
-                + "at least 0.");
+        Check.sentence(0, DAYS);
         ChappeLine chappe = onDay(1439, 1);
         Check.due("day 0", chappe.doze(1, 5), 5);
         chappe.pass(2);
@@ -190,14 +196,12 @@ public final class MenTest {
         ChappeLine chappe = Check.lineOn(9, 0, 1);
         chappe.doze(0, 9);
         chappe.pass(1);
-        Check.sentence(0, "As each day from the day 1 on begins, of 1440 minutes, the doze of each tower becomes 1 less, "
-                + "at least 0.");
+        Check.sentence(0, DAYS);
         Check.due("the day 0 takes none", chappe.doze(0, 9), 9);
     }
 
     static void dozesAsTheDayBegins() {
-        Check.sentence(0, "As each day from the day 1 on begins, of 1440 minutes, the doze of each tower becomes 1 less, "
-                + "at least 0.");
+        Check.sentence(0, DAYS);
         // The begin is put 6 minutes ahead of the text, which has one signal ahead of it.
         ChappeLine last = onDay(1433, 2);
         Check.send(last, 0, 0, 20);
@@ -213,8 +217,7 @@ public final class MenTest {
 
     static void dozesOverADayAtOnce() {
         ChappeLine chappe = onDay(1400, 3);
-        Check.sentence(0, "As each day from the day 1 on begins, of 1440 minutes, the doze of each tower becomes 1 less, "
-                + "at least 0.");
+        Check.sentence(0, DAYS);
         chappe.pass(300);
         Check.due("once", chappe.doze(0, 0), 2);
     }
@@ -225,10 +228,7 @@ public final class MenTest {
         ChappeLine chappe = Check.lineOn(9, 0, 1);
         Check.send(chappe, 0, 0, 1, 2);
         Check.send(chappe, 0, 0, 3);
-        Check.sentence(0, "Delivered signals make messages again: 'begin' opens the next one of those that were begun, "
-                + "in their order; signals of texts come to the message that is open; 'suspend' puts it aside, "
-                + "on top of the others; 'go on' opens the one on top of these; 'end' closes the open one: "
-                + "it is delivered.");
+        Check.sentence(0, DELIVERY);
         Check.due("both", chappe.pass(100), 2);
         Check.due("the first one", Check.text(chappe, 0), "1 2");
         Check.due("the second one", Check.text(chappe, 1), "3");
@@ -239,10 +239,7 @@ public final class MenTest {
         Check.send(chappe, 0, 0, 1, 2, 3);
         Check.send(chappe, 0, 3, 4, 5);
         Check.send(chappe, 0, 1, 6);
-        Check.sentence(0, "Delivered signals make messages again: 'begin' opens the next one of those that were begun, "
-                + "in their order; signals of texts come to the message that is open; 'suspend' puts it aside, "
-                + "on top of the others; 'go on' opens the one on top of these; 'end' closes the open one: "
-                + "it is delivered.");
+        Check.sentence(0, DELIVERY);
         Check.due("all", chappe.pass(200), 3);
         Check.due("begun last", Check.text(chappe, 0), "1 2 3");
         Check.due("begun first", Check.text(chappe, 1), "4 5");
@@ -261,10 +258,7 @@ public final class MenTest {
                 Check.passWhile(chappe, () -> chappe.logged(0) < begun);
             }
         }
-        Check.sentence(0, "Delivered signals make messages again: 'begin' opens the next one of those that were begun, "
-                + "in their order; signals of texts come to the message that is open; 'suspend' puts it aside, "
-                + "on top of the others; 'go on' opens the one on top of these; 'end' closes the open one: "
-                + "it is delivered.");
+        Check.sentence(0, DELIVERY);
         Check.passWhile(chappe, () -> chappe.state(3) != 'd');
         Check.due("the last one is whole", Check.text(chappe, 3), "30 31");
         Check.due("the others are not: 2", Check.text(chappe, 2), "20");
@@ -286,10 +280,7 @@ public final class MenTest {
         chappe.breakDown(1, true);
         chappe.courier(0);
         chappe.breakDown(1, false);
-        Check.sentence(0, "Delivered signals make messages again: 'begin' opens the next one of those that were begun, "
-                + "in their order; signals of texts come to the message that is open; 'suspend' puts it aside, "
-                + "on top of the others; 'go on' opens the one on top of these; 'end' closes the open one: "
-                + "it is delivered.");
+        Check.sentence(0, DELIVERY);
         Check.due("both", chappe.pass(100), 2);
         Check.due("by courier", Check.text(chappe, 0), "1");
         Check.due("by arms, begun first", Check.text(chappe, 1), "2");
@@ -318,8 +309,7 @@ public final class MenTest {
     }
 
     static void firstTowerToBlame() {
-        Check.sentence(0, "If a signal of it was set otherwise than it was read by some tower of the line, "
-                + "the first such tower is to blame, right or not.");
+        Check.sentence(0, BLAME);
         for (int first = 0; first < 3; first++) {
             ChappeLine chappe = Check.lineOn(9, 2, 1, 0);
             // The later towers change an earlier signal.
@@ -338,8 +328,7 @@ public final class MenTest {
         chappe.bribe(2, 40, 30);
         Check.send(chappe, 0, 0, 30);
         chappe.pass(100);
-        Check.sentence(0, "If a signal of it was set otherwise than it was read by some tower of the line, "
-                + "the first such tower is to blame, right or not.");
+        Check.sentence(0, BLAME);
         Check.due("it is right", chappe.isRight(0), true);
         Check.due("all the same", chappe.blame(0), 1);
         chappe.bribe(2, 30, 31);
@@ -356,8 +345,7 @@ public final class MenTest {
         Check.send(chappe, 0, 1, 5);
         chappe.bribe(1, 5, 6);
         chappe.pass(100);
-        Check.sentence(0, "If a signal of it was set otherwise than it was read by some tower of the line, "
-                + "the first such tower is to blame, right or not.");
+        Check.sentence(0, BLAME);
         Check.due("the inner one", chappe.blame(1), 1);
         Check.refuses("not the outer one", Check.NO_ELEMENT, () -> chappe.blame(0));
         Check.send(chappe, 0, 0, 1, 2);
@@ -374,8 +362,7 @@ public final class MenTest {
         chappe.doze(1, 2);
         Check.send(chappe, 0, 0, 9);
         chappe.pass(100);
-        Check.sentence(0, "If a signal of it was set otherwise than it was read by some tower of the line, "
-                + "the first such tower is to blame, right or not.");
+        Check.sentence(0, BLAME);
         Check.due("the one that dozes", chappe.blame(0), 1);
     }
 
@@ -406,9 +393,7 @@ public final class MenTest {
     };
 
     static void couriersByDistance() {
-        Check.sentence(0, "Then a courier can take a message that waits and was not begun; it is delivered, right, "
-                + "at the end of the minute that is 30 times the difference of the cells of the first and the last "
-                + "tower later, or of this one, if this is 0.");
+        Check.sentence(0, COURIERS);
         for (int[] way : WAYS) {
             ChappeLine chappe = Check.lineOn(5, way[0], way[1]);
             chappe.breakDown(1, true);
@@ -423,9 +408,7 @@ public final class MenTest {
     }
 
     static void couriersByTheFirstAndTheLastTower() {
-        Check.sentence(0, "Then a courier can take a message that waits and was not begun; it is delivered, right, "
-                + "at the end of the minute that is 30 times the difference of the cells of the first and the last "
-                + "tower later, or of this one, if this is 0.");
+        Check.sentence(0, COURIERS);
         ChappeLine chappe = Check.lineOn(5, 9, 1, 20, 12);
         Check.send(chappe, 0, 0, 7);
         Check.due("not by those between", chappe.courier(0), 90);
@@ -442,9 +425,7 @@ public final class MenTest {
         chappe.courier(0);
         chappe.breakDown(0, false);
         chappe.pass(31);
-        Check.sentence(0, "Then a courier can take a message that waits and was not begun; it is delivered, right, "
-                + "at the end of the minute that is 30 times the difference of the cells of the first and the last "
-                + "tower later, or of this one, if this is 0.");
+        Check.sentence(0, COURIERS);
         Check.due("it came", Check.text(chappe, 0), "7 9");
         Check.due("right", chappe.isRight(0), true);
         Check.due("nobody read it", chappe.signals(), 0L);
@@ -459,9 +440,7 @@ public final class MenTest {
         Check.send(chappe, 0, 2, 4);
         chappe.pass(6);
         chappe.breakDown(1, true);
-        Check.sentence(0, "Then a courier can take a message that waits and was not begun; it is delivered, right, "
-                + "at the end of the minute that is 30 times the difference of the cells of the first and the last "
-                + "tower later, or of this one, if this is 0.");
+        Check.sentence(0, COURIERS);
         Check.due("broken off", chappe.state(0), 'b');
         Check.refuses("it was begun", Check.UNSUPPORTED, () -> chappe.courier(0));
         Check.due("this one waits", chappe.courier(2), 37);
@@ -514,9 +493,7 @@ public final class MenTest {
     static void booksByDays() {
         ChappeLine chappe = withBooks(2, 1);
         putInIn(chappe, 1439, 1440, 2879, 2880, 5000);
-        Check.sentence(0, "Of the books that hold on the day on which a message was put in, the one with the latest day "
-                + "is its book, of several the one with the highest number, by books and words as they are "
-                + "when this is asked.");
+        Check.sentence(0, BOOKS);
         Check.refuses("the last minute of day 0", Check.NO_ELEMENT, () -> chappe.meaning(0, 0));
         Check.due("the first minute of day 1", chappe.meaning(1, 0), 101);
         Check.due("the last minute of day 1", chappe.meaning(2, 0), 101);
@@ -529,9 +506,7 @@ public final class MenTest {
         Check.passUntil(chappe, 1439);
         Check.send(chappe, 0, 0, 7);
         chappe.pass(100);
-        Check.sentence(0, "Of the books that hold on the day on which a message was put in, the one with the latest day "
-                + "is its book, of several the one with the highest number, by books and words as they are "
-                + "when this is asked.");
+        Check.sentence(0, BOOKS);
         Check.due("it was begun and delivered", chappe.deliveredAt(0) >= 1440, true);
         Check.due("not by the day of the delivery", chappe.meaning(0, 0), 100);
     }
@@ -539,9 +514,7 @@ public final class MenTest {
     static void booksByNumber() {
         ChappeLine chappe = withBooks(0, 0);
         putInIn(chappe, 5);
-        Check.sentence(0, "Of the books that hold on the day on which a message was put in, the one with the latest day "
-                + "is its book, of several the one with the highest number, by books and words as they are "
-                + "when this is asked.");
+        Check.sentence(0, BOOKS);
         Check.due("of the same day", chappe.meaning(0, 0), 101);
         chappe.book(0);
         Check.refuses("a newer one, without words", Check.NO_ELEMENT, () -> chappe.meaning(0, 0));
@@ -550,9 +523,7 @@ public final class MenTest {
     static void booksAsTheyAreWhenAsked() {
         ChappeLine chappe = withBooks(1);
         putInIn(chappe, 0, 1500);
-        Check.sentence(0, "Of the books that hold on the day on which a message was put in, the one with the latest day "
-                + "is its book, of several the one with the highest number, by books and words as they are "
-                + "when this is asked.");
+        Check.sentence(0, BOOKS);
         Check.due("by the book of day 1", chappe.meaning(1, 0), 100);
         Check.refuses("no book on day 0", Check.NO_ELEMENT, () -> chappe.meaning(0, 0));
         chappe.book(0);

@@ -1,5 +1,9 @@
 /** Promises 30 to 35, sentence by sentence: planning and figures. */
 public final class PlanTest {
+    private static final String PLAN = "Plans a line of new towers of a height from a cell to another one, so that "
+            + "neighbours would see each other over the ground: with the fewest towers, of several the one with "
+            + "the lowest cells, compared from the first one on.";
+
     public static void main(String[] args) {
         Check.runAll(PlanTest.class);
     }
@@ -10,9 +14,7 @@ public final class PlanTest {
 
     static void planFewestTowers() {
         ChappeLine chappe = new ChappeLine();
-        Check.sentence(30, "Plans a line of new towers of a height from a cell to another one, "
-                + "so that neighbours would see each other over the ground: with the fewest towers, "
-                + "of several the one with the lowest cells, compared from the first one on.");
+        Check.sentence(30, PLAN);
         Check.due("next to each other", chappe.plan(0, 1, 1), 2);
         Check.due(PLANS, Check.planned(chappe, 2), "0 1");
         Check.due("back", chappe.plan(23, 22, 1), 2);
@@ -29,9 +31,7 @@ public final class PlanTest {
 
     static void planLowestCells() {
         ChappeLine chappe = new ChappeLine();
-        Check.sentence(30, "Plans a line of new towers of a height from a cell to another one, "
-                + "so that neighbours would see each other over the ground: with the fewest towers, "
-                + "of several the one with the lowest cells, compared from the first one on.");
+        Check.sentence(30, PLAN);
         chappe.plan(0, 9, 1);
         Check.due("the lowest between", Check.planned(chappe, 3), "0 1 9");
         chappe.plan(9, 0, 1);
@@ -52,9 +52,7 @@ public final class PlanTest {
     static void planByGround() {
         ChappeLine chappe = new ChappeLine();
         chappe.setGround(5, 10);
-        Check.sentence(30, "Plans a line of new towers of a height from a cell to another one, "
-                + "so that neighbours would see each other over the ground: with the fewest towers, "
-                + "of several the one with the lowest cells, compared from the first one on.");
+        Check.sentence(30, PLAN);
         Check.due("over a hill", chappe.plan(1, 9, 2), 3);
         Check.due("on the hill", Check.planned(chappe, 3), "1 5 9");
         Check.due("higher than the hill", chappe.plan(1, 9, 11), 2);
@@ -72,9 +70,7 @@ public final class PlanTest {
             chappe.tower(cell, 1);
             chappe.breakDown(cell, true);
         }
-        Check.sentence(30, "Plans a line of new towers of a height from a cell to another one, "
-                + "so that neighbours would see each other over the ground: with the fewest towers, "
-                + "of several the one with the lowest cells, compared from the first one on.");
+        Check.sentence(30, PLAN);
         Check.due("over the ground alone", chappe.plan(0, 9, 1), 3);
         Check.due("on cells with towers", Check.planned(chappe, 3), "0 1 9");
         Check.refuses("none is built", Check.INDEX, () -> chappe.shows(12));
@@ -88,9 +84,7 @@ public final class PlanTest {
         chappe.setGround(2, 8);
         chappe.setGround(3, 10);
         chappe.setGround(4, 10);
-        Check.sentence(30, "Plans a line of new towers of a height from a cell to another one, "
-                + "so that neighbours would see each other over the ground: with the fewest towers, "
-                + "of several the one with the lowest cells, compared from the first one on.");
+        Check.sentence(30, PLAN);
         Check.due("by a cell that is not between", chappe.plan(1, 5, 1), 3);
         Check.due("by the hill", Check.planned(chappe, 3), "1 0 5");
     }

@@ -1,5 +1,9 @@
 /** What is thrown where several conditions hold, and that a refused call changes nothing. */
 public final class RefusalTest {
+    private static final String FIRST_LISTED = "If several conditions for an exception hold, the exception that is "
+            + "listed first is thrown.";
+    private static final String NOTHING_CHANGED = "A method that throws an exception changes nothing.";
+
     public static void main(String[] args) {
         Check.runAll(RefusalTest.class);
     }
@@ -12,7 +16,7 @@ public final class RefusalTest {
 
     static void firstOfLand() {
         ChappeLine chappe = new ChappeLine();
-        Check.sentence(0, "If several conditions for an exception hold, the exception that is listed first is thrown.");
+        Check.sentence(0, FIRST_LISTED);
         Check.refuses("setGround: cell, height", Check.INDEX, () -> chappe.setGround(-1, 51));
         Check.refuses("setGround: cell, height", Check.INDEX, () -> chappe.setGround(24, -1));
         Check.refuses("setFog: cell, fog", Check.INDEX, () -> chappe.setFog(-1, -1));
@@ -22,7 +26,7 @@ public final class RefusalTest {
     static void firstOfTower() {
         ChappeLine chappe = new ChappeLine();
         chappe.tower(0, 1);
-        Check.sentence(0, "If several conditions for an exception hold, the exception that is listed first is thrown.");
+        Check.sentence(0, FIRST_LISTED);
         Check.refuses("cell, height", Check.INDEX, () -> chappe.tower(24, 0));
         Check.refuses("height, built on", Check.ARGUMENT, () -> chappe.tower(0, 31));
         for (int i = 1; i < 12; i++) {
@@ -40,7 +44,7 @@ public final class RefusalTest {
         ChappeLine chappe = Check.lineOn(9, 0, 1);
         chappe.tower(2, 9);
         Check.send(chappe, 0, 0, 1);
-        Check.sentence(0, "If several conditions for an exception hold, the exception that is listed first is thrown.");
+        Check.sentence(0, FIRST_LISTED);
         Check.refuses("no line, in a line", Check.INDEX, () -> chappe.extend(1, 0));
         Check.refuses("no tower, has a message", Check.INDEX, () -> chappe.extend(0, 3));
         Check.refuses("no line, no tower", Check.INDEX, () -> chappe.extend(-1, -1));
@@ -50,7 +54,7 @@ public final class RefusalTest {
 
     static void firstOfSees() {
         ChappeLine chappe = Check.lineOn(9, 0, 1);
-        Check.sentence(0, "If several conditions for an exception hold, the exception that is listed first is thrown.");
+        Check.sentence(0, FIRST_LISTED);
         Check.refuses("no tower, the same", Check.INDEX, () -> chappe.sees(2, 2, true));
         Check.refuses("no tower, the same", Check.INDEX, () -> chappe.sees(-1, -1, false));
     }
@@ -58,7 +62,7 @@ public final class RefusalTest {
     static void firstOfType() {
         ChappeLine chappe = new ChappeLine();
         Check.type(chappe, 1, 2, 3, 4, 5, 6, 7, 8, 9, 10, 11, 12);
-        Check.sentence(0, "If several conditions for an exception hold, the exception that is listed first is thrown.");
+        Check.sentence(0, FIRST_LISTED);
         Check.refuses("range, 12 signals", Check.ARGUMENT, () -> chappe.type(60));
         Check.refuses("range, 12 signals", Check.ARGUMENT, () -> chappe.type(-1));
     }
@@ -66,7 +70,7 @@ public final class RefusalTest {
     static void firstOfPut() {
         ChappeLine chappe = Check.lineOn(9, 0, 1);
         Check.addLine(chappe, 9, 10);
-        Check.sentence(0, "If several conditions for an exception hold, the exception that is listed first is thrown.");
+        Check.sentence(0, FIRST_LISTED);
         Check.refuses("no line, rank, empty", Check.INDEX, () -> chappe.put(2, 4));
         Check.refuses("no line, empty", Check.INDEX, () -> chappe.put(-1, 0));
         Check.refuses("rank, empty", Check.ARGUMENT, () -> chappe.put(0, 4));
@@ -88,7 +92,7 @@ public final class RefusalTest {
         ChappeLine chappe = Check.lineOn(9, 0, 1);
         Check.send(chappe, 0, 0, 1);
         chappe.pass(1);
-        Check.sentence(0, "If several conditions for an exception hold, the exception that is listed first is thrown.");
+        Check.sentence(0, FIRST_LISTED);
         Check.refuses("being put, not blind", Check.UNSUPPORTED, () -> chappe.courier(0));
         chappe.pass(100);
         Check.refuses("delivered, not blind", Check.UNSUPPORTED, () -> chappe.courier(0));
@@ -97,7 +101,7 @@ public final class RefusalTest {
 
     static void firstOfMenAndBooks() {
         ChappeLine chappe = Check.lineOn(9, 0, 1);
-        Check.sentence(0, "If several conditions for an exception hold, the exception that is listed first is thrown.");
+        Check.sentence(0, FIRST_LISTED);
         Check.refuses("doze: no tower, range", Check.INDEX, () -> chappe.doze(2, 10));
         Check.refuses("doze: no tower, range", Check.INDEX, () -> chappe.doze(-1, -1));
         Check.refuses("bribe: no tower, both signals", Check.INDEX, () -> chappe.bribe(2, 60, 60));
@@ -114,7 +118,7 @@ public final class RefusalTest {
     static void firstOfLogsAndFates() {
         ChappeLine chappe = Check.lineOn(9, 0, 1);
         Check.send(chappe, 0, 0, 7);
-        Check.sentence(0, "If several conditions for an exception hold, the exception that is listed first is thrown.");
+        Check.sentence(0, FIRST_LISTED);
         Check.refuses("inLog: no tower, thing", Check.INDEX, () -> chappe.inLog(2, 0, 'x'));
         Check.refuses("inLog: no signal, thing", Check.INDEX, () -> chappe.inLog(0, 0, 'x'));
         Check.refuses("meaning: no signal, no book", Check.INDEX, () -> chappe.meaning(0, 0));
@@ -126,7 +130,7 @@ public final class RefusalTest {
 
     static void firstOfPlan() {
         ChappeLine chappe = new ChappeLine();
-        Check.sentence(0, "If several conditions for an exception hold, the exception that is listed first is thrown.");
+        Check.sentence(0, FIRST_LISTED);
         Check.refuses("from, height", Check.INDEX, () -> chappe.plan(-1, 5, 0));
         Check.refuses("to, height", Check.INDEX, () -> chappe.plan(5, 24, 31));
         Check.refuses("both, the same, height", Check.INDEX, () -> chappe.plan(24, 24, 0));
@@ -205,7 +209,7 @@ public final class RefusalTest {
     }
 
     static void refusedLand() {
-        Check.sentence(0, "A method that throws an exception changes nothing.");
+        Check.sentence(0, NOTHING_CHANGED);
         changesNothing("setGround: cell", Check.INDEX, chappe -> chappe.setGround(24, 5));
         changesNothing("setGround: height", Check.ARGUMENT, chappe -> chappe.setGround(2, 51));
         changesNothing("setGround: height", Check.ARGUMENT, chappe -> chappe.setGround(2, -1));
@@ -215,7 +219,7 @@ public final class RefusalTest {
     }
 
     static void refusedTowersAndLines() {
-        Check.sentence(0, "A method that throws an exception changes nothing.");
+        Check.sentence(0, NOTHING_CHANGED);
         changesNothing("tower: cell", Check.INDEX, chappe -> chappe.tower(24, 5));
         changesNothing("tower: height", Check.ARGUMENT, chappe -> chappe.tower(1, 31));
         changesNothing("tower: built on", Check.UNSUPPORTED, chappe -> chappe.tower(4, 1));
@@ -232,7 +236,7 @@ public final class RefusalTest {
     }
 
     static void refusedMessages() {
-        Check.sentence(0, "A method that throws an exception changes nothing.");
+        Check.sentence(0, NOTHING_CHANGED);
         changesNothing("type: range", Check.ARGUMENT, chappe -> chappe.type(60));
         changesNothing("type: 12 signals", Check.STATE, chappe -> chappe.type(5), true);
         changesNothing("put: line", Check.INDEX, chappe -> chappe.put(3, 0));
@@ -246,7 +250,7 @@ public final class RefusalTest {
     }
 
     static void refusedPutOfNoText() {
-        Check.sentence(0, "A method that throws an exception changes nothing.");
+        Check.sentence(0, NOTHING_CHANGED);
         ChappeLine asked = stage();
         ChappeLine twin = stage();
         asked.put(0, 0);
@@ -258,7 +262,7 @@ public final class RefusalTest {
     }
 
     static void refusedMenAndBooks() {
-        Check.sentence(0, "A method that throws an exception changes nothing.");
+        Check.sentence(0, NOTHING_CHANGED);
         changesNothing("doze: tower", Check.INDEX, chappe -> chappe.doze(7, 5));
         changesNothing("doze: range", Check.ARGUMENT, chappe -> chappe.doze(2, 10));
         changesNothing("bribe: tower", Check.INDEX, chappe -> chappe.bribe(7, 9, 1));
@@ -275,7 +279,7 @@ public final class RefusalTest {
     }
 
     static void refusedTime() {
-        Check.sentence(0, "A method that throws an exception changes nothing.");
+        Check.sentence(0, NOTHING_CHANGED);
         changesNothing("pass: 0", Check.ARGUMENT, chappe -> chappe.pass(0));
         changesNothing("pass: 301", Check.ARGUMENT, chappe -> chappe.pass(301));
         changesNothing("shows: tower", Check.INDEX, chappe -> chappe.shows(7));
@@ -286,7 +290,7 @@ public final class RefusalTest {
     }
 
     static void refusedFates() {
-        Check.sentence(0, "A method that throws an exception changes nothing.");
+        Check.sentence(0, NOTHING_CHANGED);
         changesNothing("state: message", Check.INDEX, chappe -> chappe.state(4));
         changesNothing("came: message", Check.INDEX, chappe -> chappe.came(4));
         changesNothing("signalAt: message", Check.INDEX, chappe -> chappe.signalAt(4, 0));
@@ -302,7 +306,7 @@ public final class RefusalTest {
     }
 
     static void refusedMeaning() {
-        Check.sentence(0, "A method that throws an exception changes nothing.");
+        Check.sentence(0, NOTHING_CHANGED);
         ChappeLine asked = stage();
         ChappeLine twin = stage();
         asked.pass(300);
@@ -314,7 +318,7 @@ public final class RefusalTest {
     }
 
     static void refusedPlans() {
-        Check.sentence(0, "A method that throws an exception changes nothing.");
+        Check.sentence(0, NOTHING_CHANGED);
         changesNothing("plan: from", Check.INDEX, chappe -> chappe.plan(24, 5, 1));
         changesNothing("plan: to", Check.INDEX, chappe -> chappe.plan(5, -1, 1));
         changesNothing("plan: height", Check.ARGUMENT, chappe -> chappe.plan(5, 20, 31));
@@ -323,7 +327,7 @@ public final class RefusalTest {
     }
 
     static void refusedFigures() {
-        Check.sentence(0, "A method that throws an exception changes nothing.");
+        Check.sentence(0, NOTHING_CHANGED);
         changesNothing("rightShare: none", Check.ARITHMETIC, chappe -> chappe.rightShare());
         changesNothing("meanMinutes: none", Check.ARITHMETIC, chappe -> chappe.meanMinutes());
     }

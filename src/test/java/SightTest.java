@@ -1,5 +1,13 @@
 /** The terms of sight and of lines, sentence by sentence. */
 public final class SightTest {
+    private static final String TOWERS = "At most 12 towers are numbered from 0, each on a cell of its own, with a "
+            + "height; its eye is at the ground there and this height.";
+    private static final String OVER_THE_GROUND = "Two towers at most 8 cells apart see each other over the "
+            + "ground, if on each cell between them the ground is less than the straight line from eye to eye is "
+            + "there, exactly.";
+    private static final String SEEING = "They see each other, if they do so over the ground, no cell from the one "
+            + "to the other one, both included, has a fog of more than 4, and neither is broken.";
+
     public static void main(String[] args) {
         Check.runAll(SightTest.class);
     }
@@ -31,8 +39,7 @@ public final class SightTest {
 
     static void towers() {
         ChappeLine chappe = new ChappeLine();
-        Check.sentence(0, "At most 12 towers are numbered from 0, each on a cell of its own, with a height; "
-                + "its eye is at the ground there and this height.");
+        Check.sentence(0, TOWERS);
         for (int i = 0; i < 12; i++) {
             Check.due("number", chappe.tower(i, 1), i);
         }
@@ -45,8 +52,7 @@ public final class SightTest {
     static void towersOnCellsOfTheirOwn() {
         ChappeLine chappe = new ChappeLine();
         chappe.tower(5, 1);
-        Check.sentence(0, "At most 12 towers are numbered from 0, each on a cell of its own, with a height; "
-                + "its eye is at the ground there and this height.");
+        Check.sentence(0, TOWERS);
         Check.refuses("a second one on it", Check.UNSUPPORTED, () -> chappe.tower(5, 2));
         Check.due("ahead of it", chappe.tower(4, 2), 1);
         Check.due("behind it", chappe.tower(6, 2), 2);
@@ -54,8 +60,7 @@ public final class SightTest {
 
     static void eyes() {
         ChappeLine chappe = twoTowers(3, 2, 5, 4);
-        Check.sentence(0, "At most 12 towers are numbered from 0, each on a cell of its own, with a height; "
-                + "its eye is at the ground there and this height.");
+        Check.sentence(0, TOWERS);
         chappe.setGround(4, 3);
         dueBothWays("2 and 4 high, 3 between", chappe, true, false);
         chappe.setGround(3, 1);
@@ -72,8 +77,7 @@ public final class SightTest {
     }
 
     static void atMostEightApart() {
-        Check.sentence(0, "Two towers at most 8 cells apart see each other over the ground, if on each cell "
-                + "between them the ground is less than the straight line from eye to eye is there, exactly.");
+        Check.sentence(0, OVER_THE_GROUND);
         for (int one = 0; one < 24; one++) {
             for (int other = 0; other < 24; other++) {
                 if (one != other) {
@@ -88,8 +92,7 @@ public final class SightTest {
 
     /** On each cell between, the last ground that is less than the line and the first that is not. */
     static void lessThanTheLine() {
-        Check.sentence(0, "Two towers at most 8 cells apart see each other over the ground, if on each cell "
-                + "between them the ground is less than the straight line from eye to eye is there, exactly.");
+        Check.sentence(0, OVER_THE_GROUND);
         for (int width = 2; width <= 8; width++) {
             for (int one = 1; one <= 30; one++) {
                 for (int other = 1; other <= 30; other += 1 + (one + width) % 3) {
@@ -122,8 +125,7 @@ public final class SightTest {
 
     static void onlyCellsBetweenCount() {
         ChappeLine chappe = twoTowers(8, 1, 9, 1);
-        Check.sentence(0, "Two towers at most 8 cells apart see each other over the ground, if on each cell "
-                + "between them the ground is less than the straight line from eye to eye is there, exactly.");
+        Check.sentence(0, OVER_THE_GROUND);
         chappe.setGround(8, 50);
         dueBothWays("none is between neighbours", chappe, true, true);
         chappe.setGround(9, 50);
@@ -138,8 +140,7 @@ public final class SightTest {
     }
 
     static void eachCellBetweenCounts() {
-        Check.sentence(0, "Two towers at most 8 cells apart see each other over the ground, if on each cell "
-                + "between them the ground is less than the straight line from eye to eye is there, exactly.");
+        Check.sentence(0, OVER_THE_GROUND);
         for (int cell = 0; cell < 24; cell++) {
             ChappeLine chappe = twoTowers(7, 9, 15, 9);
             chappe.setGround(cell, 9);
@@ -148,8 +149,7 @@ public final class SightTest {
     }
 
     static void fogOnTheWay() {
-        Check.sentence(0, "They see each other, if they do so over the ground, no cell from the one to the other one, "
-                + "both included, has a fog of more than 4, and neither is broken.");
+        Check.sentence(0, SEEING);
         for (int cell = 0; cell < 24; cell++) {
             ChappeLine chappe = twoTowers(16, 3, 8, 3);
             boolean isOnTheWay = cell >= 8 && cell <= 16;
@@ -167,8 +167,7 @@ public final class SightTest {
 
     static void mistEverywhere() {
         ChappeLine chappe = twoTowers(8, 3, 16, 3);
-        Check.sentence(0, "They see each other, if they do so over the ground, no cell from the one to the other one, "
-                + "both included, has a fog of more than 4, and neither is broken.");
+        Check.sentence(0, SEEING);
         for (int cell = 0; cell < 24; cell++) {
             chappe.setFog(cell, 4);
         }
@@ -178,8 +177,7 @@ public final class SightTest {
     static void neitherIsBroken() {
         ChappeLine chappe = twoTowers(8, 3, 16, 3);
         chappe.tower(12, 3);
-        Check.sentence(0, "They see each other, if they do so over the ground, no cell from the one to the other one, "
-                + "both included, has a fog of more than 4, and neither is broken.");
+        Check.sentence(0, SEEING);
         chappe.breakDown(2, true);
         dueBothWays("one between is broken", chappe, false, true);
         chappe.breakDown(0, true);
@@ -195,8 +193,7 @@ public final class SightTest {
 
     static void groundIsAskedToo() {
         ChappeLine chappe = twoTowers(8, 3, 16, 3);
-        Check.sentence(0, "They see each other, if they do so over the ground, no cell from the one to the other one, "
-                + "both included, has a fog of more than 4, and neither is broken.");
+        Check.sentence(0, SEEING);
         chappe.setGround(10, 3);
         dueBothWays("a hill", chappe, false, false);
         chappe.setGround(10, 2);

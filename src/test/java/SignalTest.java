@@ -1,5 +1,18 @@
 /** The terms of signals, messages and a minute, sentence by sentence. */
 public final class SignalTest {
+    private static final String STEPS = "To set a signal, a tower needs as many minutes as its bits that differ "
+            + "from those of the signal that it set last, 0 at first, at least 1; while it sets, it shows none.";
+    private static final String MESSAGES = "At most 20 messages are numbered from 0, each a text of 1 to 12 "
+            + "signals, for a line, with a rank from 0 to 3.";
+    private static final String NEXT_ONE = "Of the messages of a line that wait, the one with the greatest rank is "
+            + "the next one, of several that with the lowest number.";
+    private static final String BREAKING_OFF = "If the next one's rank is greater than that of the message that is "
+            + "being put, 'suspend' is put instead of the latter's next signal, 'end' too; it waits again then, "
+            + "and goes on, when it is the next one, with 'go on' and the signal that was to be put.";
+    private static final String BROKEN = "A broken tower does nothing, and goes on as it was when it is mended.";
+    private static final String TAKING = "A ready tower that is not the first one takes the signal of the one "
+            + "ahead of it, if this shows one that was not taken, and they see each other; it sets that then.";
+
     public static void main(String[] args) {
         Check.runAll(SignalTest.class);
     }
@@ -27,8 +40,7 @@ public final class SignalTest {
     };
 
     static void minutesToSet() {
-        Check.sentence(0, "To set a signal, a tower needs as many minutes as its bits that differ from those "
-                + "of the signal that it set last, 0 at first, at least 1; while it sets, it shows none.");
+        Check.sentence(0, STEPS);
         for (int[] needed : NEEDED) {
             String what = needed[1] + " behind " + needed[0];
             ChappeLine chappe = Check.lineOn(9, 0, 1);
@@ -48,8 +60,7 @@ public final class SignalTest {
     static void minutesAtFirst() {
         ChappeLine chappe = Check.lineOn(9, 0, 1, 2);
         Check.send(chappe, 0, 0, 7);
-        Check.sentence(0, "To set a signal, a tower needs as many minutes as its bits that differ from those "
-                + "of the signal that it set last, 0 at first, at least 1; while it sets, it shows none.");
+        Check.sentence(0, STEPS);
         for (int tower = 0; tower < 3; tower++) {
             // Begin is 111101.
             Check.passUntil(chappe, 6 * tower + 5);
@@ -63,16 +74,14 @@ public final class SignalTest {
         ChappeLine chappe = Check.lineOn(9, 0, 1);
         chappe.bribe(0, 5, 0);
         Check.send(chappe, 0, 0, 5, 0);
-        Check.sentence(0, "To set a signal, a tower needs as many minutes as its bits that differ from those "
-                + "of the signal that it set last, 0 at first, at least 1; while it sets, it shows none.");
+        Check.sentence(0, STEPS);
         Check.due("by the 0 that it set, not the 5 that was to be put", minutesOfTheThird(chappe, 0), 1);
     }
 
     static void showsNoneWhileItSets() {
         ChappeLine chappe = Check.lineOn(9, 0, 1);
         Check.send(chappe, 0, 0, 0);
-        Check.sentence(0, "To set a signal, a tower needs as many minutes as its bits that differ from those "
-                + "of the signal that it set last, 0 at first, at least 1; while it sets, it shows none.");
+        Check.sentence(0, STEPS);
         // The begin from 0 to 5, the text's 0 from 6 to 11, the end from 12 to 18.
         String shown = "";
         for (int i = 0; i < 20; i++) {
@@ -101,8 +110,7 @@ public final class SignalTest {
     static void twentyMessages() {
         ChappeLine chappe = Check.lineOn(9, 0, 1);
         Check.addLine(chappe, 9, 10, 11);
-        Check.sentence(0, "At most 20 messages are numbered from 0, each a text of 1 to 12 signals, for a line, "
-                + "with a rank from 0 to 3.");
+        Check.sentence(0, MESSAGES);
         for (int i = 0; i < 20; i++) {
             Check.due("number", Check.send(chappe, i / 10, 0, i), i);
         }
@@ -117,8 +125,7 @@ public final class SignalTest {
 
     static void textsOf1To12() {
         ChappeLine chappe = Check.lineOn(9, 0, 1);
-        Check.sentence(0, "At most 20 messages are numbered from 0, each a text of 1 to 12 signals, for a line, "
-                + "with a rank from 0 to 3.");
+        Check.sentence(0, MESSAGES);
         Check.refuses("none", Check.UNSUPPORTED, () -> chappe.put(0, 0));
         Check.due("one", Check.send(chappe, 0, 0, 9), 0);
         Check.type(chappe, 1, 2, 3, 4, 5, 6, 7, 8, 9, 10, 11, 12);
@@ -132,8 +139,7 @@ public final class SignalTest {
     static void ranks() {
         ChappeLine chappe = Check.lineOn(9, 0, 1);
         chappe.type(1);
-        Check.sentence(0, "At most 20 messages are numbered from 0, each a text of 1 to 12 signals, for a line, "
-                + "with a rank from 0 to 3.");
+        Check.sentence(0, MESSAGES);
         Check.refuses("-1", Check.ARGUMENT, () -> chappe.put(0, -1));
         Check.refuses("4", Check.ARGUMENT, () -> chappe.put(0, 4));
         Check.due("0", chappe.put(0, 0), 0);
@@ -162,8 +168,7 @@ public final class SignalTest {
         }
         Check.send(chappe, 1, 3, 8);
         chappe.pass(300);
-        Check.sentence(0, "Of the messages of a line that wait, the one with the greatest rank is the next one, "
-                + "of several that with the lowest number.");
+        Check.sentence(0, NEXT_ONE);
         Check.due("2 4, 6 7, 0 3, 1 5", Check.log(chappe, 0, 'r'), "61 2 63 61 4 63 61 6 63 61 7 63 "
                 + "61 0 63 61 3 63 61 1 63 61 5 63");
         Check.due("not those of another line", Check.log(chappe, 2, 'r'), "61 8 63");
@@ -177,16 +182,13 @@ public final class SignalTest {
         Check.send(chappe, 0, 2, 30);
         Check.send(chappe, 0, 0, 40);
         chappe.pass(300);
-        Check.sentence(0, "Of the messages of a line that wait, the one with the greatest rank is the next one, "
-                + "of several that with the lowest number.");
+        Check.sentence(0, NEXT_ONE);
         Check.due("the broken one is ahead of the other one of its rank", Check.log(chappe, 0, 'r'),
                 "61 62 61 30 63 60 10 11 63 61 20 63 61 40 63");
     }
 
     static void breaksOff() {
-        Check.sentence(0, "If the next one's rank is greater than that of the message that is being put, 'suspend' "
-                + "is put instead of the latter's next signal, 'end' too; it waits again then, and goes on, "
-                + "when it is the next one, with 'go on' and the signal that was to be put.");
+        Check.sentence(0, BREAKING_OFF);
         String[] wholes = {
             "61 62 61 20 63 60 10 11 63", "61 10 62 61 20 63 60 11 63", "61 10 11 62 61 20 63 60 63",
             "61 10 11 63 61 20 63"
@@ -212,9 +214,7 @@ public final class SignalTest {
     }
 
     static void breaksOffByAGreaterRankAlone() {
-        Check.sentence(0, "If the next one's rank is greater than that of the message that is being put, 'suspend' "
-                + "is put instead of the latter's next signal, 'end' too; it waits again then, and goes on, "
-                + "when it is the next one, with 'go on' and the signal that was to be put.");
+        Check.sentence(0, BREAKING_OFF);
         for (int rank = 0; rank <= 3; rank++) {
             for (int other = 0; other <= 3; other++) {
                 ChappeLine chappe = Check.lineOn(9, 0, 1);
@@ -234,9 +234,7 @@ public final class SignalTest {
         chappe.pass(1);
         Check.send(chappe, 0, 1, 20);
         Check.passWhile(chappe, () -> chappe.logged(0) < 6);
-        Check.sentence(0, "If the next one's rank is greater than that of the message that is being put, 'suspend' "
-                + "is put instead of the latter's next signal, 'end' too; it waits again then, and goes on, "
-                + "when it is the next one, with 'go on' and the signal that was to be put.");
+        Check.sentence(0, BREAKING_OFF);
         Check.due("goes on", Check.log(chappe, 0, 'r'), "61 62 61 20 63 60");
         Check.send(chappe, 0, 1, 21);
         chappe.pass(200);
@@ -255,9 +253,7 @@ public final class SignalTest {
             }
         }
         chappe.pass(300);
-        Check.sentence(0, "If the next one's rank is greater than that of the message that is being put, 'suspend' "
-                + "is put instead of the latter's next signal, 'end' too; it waits again then, and goes on, "
-                + "when it is the next one, with 'go on' and the signal that was to be put.");
+        Check.sentence(0, BREAKING_OFF);
         Check.due("each in the other one", Check.log(chappe, 0, 'r'),
                 "61 0 62 61 10 62 61 20 62 61 30 31 63 60 21 63 60 11 63 60 1 63");
         for (int i = 0; i < 4; i++) {
@@ -273,9 +269,7 @@ public final class SignalTest {
         Check.passWhile(chappe, () -> chappe.logged(0) < 2);
         Check.send(chappe, 0, 3, 30);
         chappe.pass(300);
-        Check.sentence(0, "If the next one's rank is greater than that of the message that is being put, 'suspend' "
-                + "is put instead of the latter's next signal, 'end' too; it waits again then, and goes on, "
-                + "when it is the next one, with 'go on' and the signal that was to be put.");
+        Check.sentence(0, BREAKING_OFF);
         Check.due("the one that came while the suspend was set", Check.log(chappe, 0, 'r'),
                 "61 62 61 30 63 61 20 63 60 10 63");
     }
@@ -303,7 +297,7 @@ public final class SignalTest {
         ChappeLine chappe = Check.lineOn(9, 0, 4);
         Check.send(chappe, 0, 0, 0);
         chappe.pass(3);
-        Check.sentence(0, "A broken tower does nothing, and goes on as it was when it is mended.");
+        Check.sentence(0, BROKEN);
         chappe.breakDown(0, true);
         chappe.pass(100);
         Check.due("it does not set", chappe.shows(0), -1);
@@ -317,7 +311,7 @@ public final class SignalTest {
     static void brokenFirstTower() {
         ChappeLine chappe = Check.lineOn(9, 0, 4);
         Check.send(chappe, 0, 0, 0);
-        Check.sentence(0, "A broken tower does nothing, and goes on as it was when it is mended.");
+        Check.sentence(0, BROKEN);
         chappe.breakDown(0, true);
         chappe.pass(100);
         Check.due("it puts nothing", chappe.logged(0), 0);
@@ -331,7 +325,7 @@ public final class SignalTest {
         ChappeLine chappe = Check.lineOn(9, 0, 4);
         Check.send(chappe, 0, 0, 0);
         chappe.pass(6);
-        Check.sentence(0, "A broken tower does nothing, and goes on as it was when it is mended.");
+        Check.sentence(0, BROKEN);
         chappe.breakDown(0, true);
         chappe.pass(50);
         Check.due("nothing is taken from it", chappe.logged(1), 0);
@@ -350,7 +344,7 @@ public final class SignalTest {
         ChappeLine chappe = Check.lineOn(9, 0, 4);
         Check.send(chappe, 0, 0, 59);
         chappe.pass(16);
-        Check.sentence(0, "A broken tower does nothing, and goes on as it was when it is mended.");
+        Check.sentence(0, BROKEN);
         chappe.breakDown(1, true);
         Check.due("one minute ahead of the end", chappe.pass(100), 0);
         Check.due("it is on its way", chappe.state(0), 'l');
@@ -407,8 +401,7 @@ public final class SignalTest {
         chappe.pass(7);
         chappe.breakDown(0, true);
         chappe.pass(100);
-        Check.sentence(0, "A ready tower that is not the first one takes the signal of the one ahead of it, "
-                + "if this shows one that was not taken, and they see each other; it sets that then.");
+        Check.sentence(0, TAKING);
         Check.due("the begin was taken once by the second one", chappe.logged(1), 1);
         Check.due("and by the third one", chappe.logged(2), 1);
         chappe.breakDown(0, false);
@@ -421,8 +414,7 @@ public final class SignalTest {
     static void takesWhatItSees() {
         ChappeLine chappe = Check.lineOn(9, 0, 4);
         Check.send(chappe, 0, 0, 3);
-        Check.sentence(0, "A ready tower that is not the first one takes the signal of the one ahead of it, "
-                + "if this shows one that was not taken, and they see each other; it sets that then.");
+        Check.sentence(0, TAKING);
         chappe.setFog(4, 5);
         chappe.pass(20);
         Check.due("not by fog", chappe.logged(1), 0);
