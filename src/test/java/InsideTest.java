@@ -6,7 +6,20 @@ import java.lang.reflect.Field;
  */
 public final class InsideTest {
     public static void main(String[] args) {
+        if (isHeldOtherwise()) {
+            System.out.println("InsideTest: another class of this face, whose inside is not known here");
+            return;
+        }
         Check.runAll(InsideTest.class);
+    }
+
+    private static boolean isHeldOtherwise() {
+        for (Class<?> part : ChappeLine.class.getDeclaredClasses()) {
+            if (part.getSimpleName().equals("Replay")) {
+                return false;
+            }
+        }
+        return true;
     }
 
     private static ChappeLine twoMessages() {
@@ -73,6 +86,29 @@ public final class InsideTest {
         changeLog(2, "sets", 6, 41, false);
         changeLog(2, "sets", 3, 62, false);
         changeLog(2, "sets", 4, 60, false);
+    }
+
+    private static void shortenLog(int tower, int size, boolean isConsistent) {
+        ChappeLine chappe = twoMessages();
+        Object log = inside(((Object[]) inside(chappe, "towers"))[tower], "log");
+        try {
+            Field field = log.getClass().getDeclaredField("size");
+            field.setAccessible(true);
+            field.setInt(log, size);
+        } catch (ReflectiveOperationException e) {
+            throw new IllegalStateException(e);
+        }
+        Check.due("log of tower " + tower + " with " + size, chappe.isConsistent(), isConsistent);
+    }
+
+    static void lengthsOfLogs() {
+        sentence();
+        shortenLog(2, 7, true);
+        // More than the tower ahead has; less than was delivered.
+        shortenLog(0, 6, false);
+        shortenLog(1, 6, false);
+        shortenLog(2, 6, false);
+        shortenLog(2, 0, false);
     }
 
     static void whatCame() {

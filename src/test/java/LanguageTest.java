@@ -29,8 +29,8 @@ public final class LanguageTest {
         "\\bassert\\b", "\\bMath\\.\\w+Exact\\b", "\\bSystem\\.(?!arraycopy)", "\\bextends \\w*Exception\\b",
         "\"\\s*\\+", "\\+\\s*\"", "\\bstatic \\{", "\\bboolean equals\\b", "\\bint hashCode\\b",
         "\\bString toString\\b", "\\bThread\\b", "\\bObject\\b",
-        "catch \\((final )?(ArrayIndex\\w*|StringIndex\\w*|NullPointer\\w*|ClassCast\\w*|NegativeArray\\w*|ArrayStore\\w*"
-                + "|Exception|Throwable|Error)\\b"
+        "catch \\((final )?(ArrayIndex\\w*|StringIndex\\w*|NullPointer\\w*|ClassCast\\w*|NegativeArray\\w*"
+                + "|ArrayStore\\w*|Exception|Throwable|Error)\\b"
     };
 
     private static final Set<String> THROWN = Set.of("IllegalStateException", "IllegalArgumentException",
@@ -85,11 +85,11 @@ public final class LanguageTest {
             int flags = each.getModifiers();
             Check.due("1: static " + each, Modifier.isStatic(flags), true);
             Check.due("1: not public " + each, !Modifier.isPublic(flags) && !Modifier.isProtected(flags), true);
-            Check.due("2: no classes in classes " + each, each.getDeclaredClasses().length, 0);
             for (Method method : each.getDeclaredMethods()) {
                 boolean isOfFace = Pattern.compile(" " + method.getName() + "\\(")
                         .matcher(String.join(";", FACE)).find();
-                Check.due("1: not a name of the face " + method, isOfFace, false);
+                Check.due("1: not a name of the face " + method,
+                        isOfFace && Modifier.isPrivate(method.getModifiers()), false);
             }
             memberCounts(each);
         }
