@@ -344,6 +344,9 @@ public final class ChappeLine {
 
     public float rightShare() throws ArithmeticException {
         int delivered = deliveredCount();
+        if (delivered == 0) {
+            throw new ArithmeticException("no message was delivered");
+        }
         int right = 0;
         for (int i = 0; i < messageCount; i++) {
             Message message = messageAt(i);
@@ -356,6 +359,9 @@ public final class ChappeLine {
 
     public double meanMinutes() throws ArithmeticException {
         int delivered = deliveredCount();
+        if (delivered == 0) {
+            throw new ArithmeticException("no message was delivered");
+        }
         long sum = 0;
         for (int i = 0; i < messageCount; i++) {
             Message message = messageAt(i);
@@ -485,9 +491,6 @@ public final class ChappeLine {
             if (message != null && message.state == DELIVERED) {
                 delivered++;
             }
-        }
-        if (delivered == 0) {
-            throw new ArithmeticException("no message was delivered");
         }
         return delivered;
     }
